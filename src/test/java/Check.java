@@ -44,11 +44,20 @@ final class Check {
         }
     }
 
-    /** Makes the buffer tell this text alone, and plays it. */
-    static int playText(WombatBowls bowls, String text) {
-        bowls.clearBuffer();
-        append(bowls, text);
-        return bowls.playAll();
+    /** Makes moves that are told as a text of any length, by the calls themselves. */
+    static void moves(WombatBowls bowls, String text) {
+        for (String part : text.split(";")) {
+            String[] numbers = part.substring(1).split(",");
+            if (part.charAt(0) == 'j') {
+                bowls.roll(Integer.parseInt(numbers[0]));
+            } else if (part.charAt(0) == 'b') {
+                bowls.play(Integer.parseInt(numbers[0]), Integer.parseInt(numbers[1]), Integer.parseInt(numbers[2]));
+            } else if (part.charAt(0) == 'c') {
+                bowls.count();
+            } else {
+                bowls.changeWind(Integer.parseInt(numbers[0]));
+            }
+        }
     }
 
     static void end(String test) {
