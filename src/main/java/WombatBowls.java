@@ -197,7 +197,7 @@ public final class WombatBowls {
         return savedCount;
     }
 
-    // ---- the end as it is
+    // ---- the end as it is; nothing is changed
 
     public boolean isJackThere() {
         return now.green.hasJack();
@@ -298,7 +298,7 @@ public final class WombatBowls {
         return at(now.green.biases, bowl);
     }
 
-    // ---- counting
+    // ---- counting; nothing is changed
 
     public int leader() throws IllegalStateException {
         int side = now.green.scoringSide();
@@ -340,7 +340,7 @@ public final class WombatBowls {
         return now.green.farthestApart();
     }
 
-    // ---- curves
+    // ---- curves; nothing is changed
 
     public int curveBySteps(int aim, int weight, int bias, int steps) throws IllegalArgumentException {
         requireCurve(aim, weight, bias, steps);
@@ -352,7 +352,7 @@ public final class WombatBowls {
         return placeByFormula(aim + now.blowing, bias, steps);
     }
 
-    // ---- what would be
+    // ---- what would be; nothing is changed
 
     public int wouldCount(int aim, int weight, int bias) throws IllegalArgumentException, IllegalStateException {
         if (!isPlay(aim, weight, bias)) {
@@ -415,7 +415,7 @@ public final class WombatBowls {
         return best;
     }
 
-    // ---- accounts
+    // ---- accounts; nothing is changed
 
     public int pointsOf(int side) throws IndexOutOfBoundsException {
         requireSide(side);
@@ -746,7 +746,9 @@ public final class WombatBowls {
         int strikes = 0;
 
         Green() {
-            fillAll(places, GONE);
+            for (int thing = 0; thing < places.length; thing++) {
+                places[thing] = GONE;
+            }
         }
 
         void copyFrom(Green other) {
