@@ -157,6 +157,14 @@ final class Check {
         range(name, make, least, greatest, INDEX, move);
     }
 
+    /** Undo as often as it goes, six times at the most. */
+    static void undoAll(WombatBowls bowls) {
+        for (int call = 0; call < 6 && bowls.savedStates() > 0; call++) {
+            bowls.undo();
+        }
+        due("savedStates(), all are undone", bowls.savedStates(), 0);
+    }
+
     static void append(WombatBowls bowls, String text) {
         for (char sign : text.toCharArray()) {
             bowls.append(sign);

@@ -298,6 +298,8 @@ final class EndBounds {
         jackBack("j50;b0,40,0;b-7,45,3;b-7,67,3;b-8,52,3;b-8,70,3;b8,70,-3;b-3,58,1;b-3,64,1", 41);
         // bowls at 40 and at 42: the row 41 is free
         jackBack("j50;b0,43,0;b0,69,0;b-4,40,2;b-5,55,2;b8,70,-3;b-8,70,3;b-3,58,1;b-3,64,1", 41);
+        // a bowl in the row 40, but in the column 14
+        jackBack("j50;b1,40,0;b-7,45,3;b-7,67,3;b-8,52,3;b-8,70,3;b8,70,-3;b-3,58,1;b-3,64,1", 40);
         // bowls at 40 and at 41
         jackBack(Situations.BURNT_BY_LAST, 42);
         WombatBowls x = new WombatBowls();

@@ -1,5 +1,9 @@
+import java.lang.reflect.Field;
+import java.lang.reflect.Modifier;
 import java.nio.file.Files;
 import java.nio.file.Path;
+import java.util.ArrayList;
+import java.util.List;
 import java.util.regex.Matcher;
 import java.util.regex.Pattern;
 
@@ -30,6 +34,7 @@ public final class LanguageTest {
         }
         checkLengths(source);
         checkParameters(code);
+        checkClasses();
         Check.end("LanguageTest");
     }
 
@@ -50,6 +55,22 @@ public final class LanguageTest {
         Matcher list = Pattern.compile("(?m)^ {4,8}(?! )[\\w\\[\\] ]+\\(([^)]*)\\)[^;\\n]*\\{").matcher(code);
         while (list.find()) {
             Check.due("seven parameters: " + list.group(), list.group(1).split(",").length <= 7, true);
+        }
+    }
+
+    /** Rule 11: some twelve classes, and some twenty fields in each beside its constants; rule 5: static is final. */
+    private static void checkClasses() {
+        List<Class<?>> classes = new ArrayList<>(List.of(WombatBowls.class.getDeclaredClasses()));
+        classes.add(WombatBowls.class);
+        Check.due("twelve classes at the most", classes.size() <= 12, true);
+        for (Class<?> each : classes) {
+            int fields = 0;
+            for (Field field : each.getDeclaredFields()) {
+                boolean fixed = Modifier.isStatic(field.getModifiers());
+                fields += fixed ? 0 : 1;
+                Check.due(field + " is final", !fixed || Modifier.isFinal(field.getModifiers()), true);
+            }
+            Check.due("twenty fields at the most: " + each, fields <= 20, true);
         }
     }
 }

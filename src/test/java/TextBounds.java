@@ -210,10 +210,8 @@ final class TextBounds {
             // another count of saved states: what undo drops of y is older than the state before it
             x.keep(0);
             y.keep(0);
-            while (x.savedStates() < 6) {
+            for (int call = 0; call < 6; call++) {
                 x.goBack(0);
-            }
-            while (y.savedStates() < 6) {
                 y.goBack(0);
             }
             Check.due("digest() behind " + text, x.digest(), y.digest());
@@ -310,9 +308,7 @@ final class TextBounds {
         Check.append(x, "w0;w0");
         x.playAll();
         Check.due("savedStates(), six", x.savedStates(), 6);
-        while (x.savedStates() > 0) {
-            x.undo();
-        }
+        Check.undoAll(x);
         Check.due("wind(), the oldest one that is left", x.wind(), 2);
     }
 }

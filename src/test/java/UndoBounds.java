@@ -147,12 +147,8 @@ final class UndoBounds {
                 other.keep(slot);
                 Check.due(one.getKey() + " throws", Check.answer(one.getValue(), x) instanceof Class, false);
                 x.goBack(slot);
-                while (x.savedStates() > 0) {
-                    x.undo();
-                }
-                while (other.savedStates() > 0) {
-                    other.undo();
-                }
+                Check.undoAll(x);
+                Check.undoAll(other);
                 x.goBack(slot);
                 other.goBack(slot);
                 x.clearBuffer();
@@ -181,9 +177,7 @@ final class UndoBounds {
         x.clearBuffer();
         x.goBack(0);
         Check.due("clearBuffer(), the buffer stays as it is", x.clearBuffer(), 0);
-        while (x.savedStates() > 0) {
-            x.undo();
-        }
+        Check.undoAll(x);
         Check.due("wind(), all is undone", x.wind(), 0);
         x.goBack(1);
         Check.due("wind(), undo leaves the slots", x.wind(), 4);

@@ -57,12 +57,8 @@ public final class UndoTest {
         Check.due("clearBuffer(), the buffer stays", x.clearBuffer(), 1);
         Check.due("needed()", x.needed(), 21);
         Check.due("bowlsOfSide()", x.bowlsOfSide(), 4);
-        while (x.savedStates() > 0) {
-            x.undo();
-        }
-        while (same.savedStates() > 0) {
-            same.undo();
-        }
+        Check.undoAll(x);
+        Check.undoAll(same);
         x.goBack(1);
         same.goBack(1);
         Check.due("digest(), the slots stay at undo", x.digest(), same.digest());

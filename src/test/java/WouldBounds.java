@@ -239,6 +239,8 @@ final class WouldBounds {
         bestWeight("j30;b0,25,0", 1, 0, 27);
         // 14 and 71 would be greater, but are no weights
         bestWeight("j22", 7, 0, 15);
+        bestWeight("j24;b0,29,2", 1, 2, 15);
+        bestWeight("j28;b2,15,-2", 0, 1, 69);
         WombatBowls beyond = Check.after("j28;b2,15,1");
         int least = beyond.bestWeight(4, -2);
         for (int weight = 15; weight <= 70; weight++) {
@@ -296,6 +298,13 @@ final class WouldBounds {
         // all are alike: the least of all
         bestPlay("j30", -2, -1, 15);
         bestPlay("w5;j21;b-3,18,-1;b-8,24,0", -2, -1, 15);
+        // with the bias -1 it is out, with the bias 0 it lies in the column 0 (1050 - 1050) by 15 steps alone
+        bestPlay("w-5;j20", -2, 0, 15);
+        // by 15 steps it is as near as the other one, by 16 it is nearer
+        bestPlay("w4;j50;b-6,15,1", -2, -1, 16);
+        bestPlay("j45;b2,16,2", -2, -1, 16);
+        // by 71 steps there would be more
+        bestPlay("j48;b2,26,-1;b2,49,0", -2, 0, 42);
         // one alone is the greatest: at the boundary of the aim, of the bias and of the weight
         bestPlay("twice;w4;j26;b-5,25,0", -2, -1, 26);
         bestPlay("w-5;j30;b4,26,1", 2, 1, 30);
