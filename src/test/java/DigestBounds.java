@@ -1,4 +1,6 @@
 import java.util.Arrays;
+import java.util.Map;
+import java.util.function.Supplier;
 
 /** The boundary cases of the promise 63: each value of the list makes the hash another one, and only these do. */
 final class DigestBounds {
@@ -10,6 +12,8 @@ final class DigestBounds {
         buffer();
         slotsAndStates();
         rules();
+        situations();
+        means();
     }
 
     /** The list of a new object, put together by hand, up to the slots. */
@@ -90,5 +94,55 @@ final class DigestBounds {
         Check.due("the jack is not put back", back.digest() - none, 2 * states);
         twice.undo();
         Check.due("undone", twice.digest(), none);
+    }
+
+    /** All values of the list, at the places in a match where calls throw or do not. */
+    private static void situations() {
+        Check.sentence(63, "Computes a hash of the whole state.");
+        for (Map.Entry<String, Supplier<WombatBowls>> one : Situations.all().entrySet()) {
+            String name = one.getKey();
+            boolean busy = !name.equals("a new object") && !name.equals("a full buffer");
+            boolean over = name.equals("a match that is over");
+            String buffer = busy ? Situations.TEXT : name.equals("a full buffer") ? Situations.FULL_TEXT : "";
+            WombatBowls x = one.getValue().get();
+            long due = new DigestByHand(x).of(name.startsWith("a jack put back"), over, over ? 1 : 0, busy ? 1 : 0, buffer);
+            Check.due("digest() of " + name, x.digest(), due);
+            Check.due("digest() of " + name + ", again", x.digest(), due);
+        }
+        WombatBowls windy = Situations.open();
+        windy.changeWind(-5);
+        Check.due("digest(), the wind bends both curves", windy.digest(),
+            new DigestByHand(windy).of(false, false, 0, 1, Situations.TEXT));
+    }
+
+    /** Means below 1, of 1, between powers of two, of 2, 4 and 8. */
+    private static void means() {
+        Check.sentence(63, "the bits of meanPoints (as Double.doubleToLongBits)");
+        for (int points = 1; points <= 4; points++) {
+            WombatBowls x = new WombatBowls();
+            x.turnTwice();
+            x.begin(50);
+            for (int end = 0; end < 6; end++) {
+                x.changeBowls(points);
+                x.roll(50);
+                for (int bowl = 0; bowl < 2 * points; bowl++) {
+                    if (bowl % 2 == 1) {
+                        x.play(9, 70, 3);
+                    } else if (end < 3) {
+                        x.play(bowl / 2 == 0 ? 0 : 5 - bowl, 20 + bowl, 0);
+                    } else {
+                        x.play(-9, 70, -3);
+                    }
+                }
+                x.count();
+                Check.due("digest(), the mean is " + x.meanPoints(), x.digest(),
+                    new DigestByHand(x).of(false, true, 0, 0, ""));
+            }
+        }
+        WombatBowls eight = Check.after("j50;b0,54,0;b9,70,3;b-8,52,3;b9,70,3;b8,64,-3;b9,70,3;b-3,58,1;b9,70,3");
+        eight.turnTwice();
+        eight.count();
+        Check.due("meanPoints()", eight.meanPoints(), 8.0);
+        Check.due("digest(), the mean is 8", eight.digest(), new DigestByHand(eight).of(false, true, 0, 0, ""));
     }
 }

@@ -107,6 +107,12 @@ final class MatchBounds {
         Check.due("bowlsOfSide()", x.bowlsOfSide(), 2);
         Check.due("isJackThere()", x.isJackThere(), false);
         Check.due("bowls()", x.bowls(), 0);
+        int[] accounts = {x.ends(), x.burntEnds(), x.keptEnds(), x.putBack(), x.played(), x.touchers(), x.first(), x.streak(),
+            x.bowls(), x.pointsOf(0), x.pointsOf(1)};
+        for (int index = 0; index < accounts.length; index++) {
+            Check.due("the account " + index + " of another match", accounts[index], 0);
+        }
+        Check.due("meanPoints()", x.meanPoints(), 0.0);
         Check.thrown("pointsOfEnd(0)", x, Check.INDEX, () -> x.pointsOfEnd(0));
         for (int points = -8; points <= 8; points++) {
             Check.due("endsWith " + points, x.endsWith(points), 0);
@@ -491,6 +497,9 @@ final class MatchBounds {
         Check.due("meanPoints(), 2 of 3, of both sides", y.meanPoints(), 2.0 / 3.0);
         y.changeBowls(4);
         Check.moves(y, Situations.BURNT);
+        WombatBowls three = new WombatBowls();
+        win(three, 1, 3);
+        Check.due("meanPoints(), one end", three.meanPoints(), 3.0);
         Check.due("meanPoints(), not counted yet", y.meanPoints(), 2.0 / 3.0);
         y.count();
         Check.due("meanPoints(), a burnt end too", y.meanPoints(), 0.5);

@@ -15,6 +15,9 @@ final class Situations {
     /** A full buffer of 60 characters that tells moves. */
     static final String FULL_TEXT = "w-5;w-5;w-5;w-5;w-5;w-5;w-5;w-5;w-5;w-5;w-5;w-5;w-5;w5;w5;w1";
 
+    /** What is in the buffer of all situations but a new object and a full buffer. */
+    static final String TEXT = "w1;c";
+
     private Situations() {
     }
 
@@ -32,7 +35,7 @@ final class Situations {
         x.keep(1);
         x.changeBowls(4);
         Check.moves(x, moves);
-        Check.append(x, "w1;c");
+        Check.append(x, TEXT);
         return x;
     }
 
