@@ -26,6 +26,12 @@ final class CountBounds {
         Check.refused("leader(), no bowls", Situations::rolled, Check.STATE, x -> x.leader());
         Check.refused("leader(), a burnt end", Situations::burnt, Check.STATE, x -> x.leader());
         Check.refused("leader(), burnt by the last bowl", Situations::burntByLast, Check.STATE, x -> x.leader());
+        Check.refused("leader(), burnt, the first bowl is the nearest", () -> Check.after(Situations.BURNT_AT_FIRST), Check.STATE,
+            x -> x.leader());
+        Check.refused("leader(), all eight are dead", () -> Check.after("j30;" + OUT + OUT + OUT + OUT + OUT + OUT + OUT + OUT),
+            Check.STATE, x -> x.leader());
+        Check.refused("leader(), all eight are played, 9 and 9", () -> Check.after("j30;b1,30,0;b-1,30,0;" + OUT + OUT + OUT
+            + OUT + OUT + OUT), Check.STATE, x -> x.leader());
         Check.refused("leader(), the match is over", Situations::over, Check.STATE, x -> x.leader());
         Check.refused("leader(), all are dead", () -> Check.after("j30;" + OUT + OUT), Check.STATE, x -> x.leader());
         Check.refused("leader(), 9 and 9", () -> Check.after("j30;b1,30,0;b-1,30,0"), Check.STATE, x -> x.leader());
@@ -70,6 +76,8 @@ final class CountBounds {
         points(Situations.TO_BURN, pointsByHand(Situations.TO_BURN));
         points(Situations.BURNT, 0);
         points(Situations.BURNT_BY_LAST, 0);
+        points(Situations.BURNT_AT_FIRST, 0);
+        points("j30;" + OUT + OUT + OUT + OUT + OUT + OUT + OUT + OUT, 0);
         points("j30;b0,25,0", 1);
         points("j30;b1,30,0;b-1,30,0", 0);
         // 9, 10, 16 of the side 0 against 17, 16 and 10 of the side 1
@@ -291,5 +299,13 @@ final class CountBounds {
         Check.due("spread(), 20, 15 and 29", Check.after("j30;b1,20,0;b0,15,0;b-1,29,0").spread(), 205);
         // a bowl in the ditch lies in the row 60: the bowls are at 47 and 11, 60 and 10, 51 and 10
         Check.due("spread(), in the ditch", Check.after("j48;b5,58,-2;b0,70,0;b0,68,0").spread(), 170);
+        // the jack is no bowl: it lies farther away than all of eight bowls
+        WombatBowls eight = Check.after("j50;b0,15,0;b0,15,0;b1,15,0;b1,15,0;b-1,15,0;b-1,15,0;b2,15,0");
+        Check.due("spread(), seven, the columns 9 and 13", eight.spread(), 17);
+        eight.play(9, 70, 3);
+        Check.due("spread(), eight, one is dead", eight.spread(), 17);
+        eight.undo();
+        eight.play(2, 15, 0);
+        Check.due("spread(), eight", eight.spread(), 17);
     }
 }

@@ -243,6 +243,17 @@ final class EndBounds {
         Check.moves(y, Situations.BURNT);
         Check.due("touchers(), of the end before", y.touchers(), 1);
         Check.due("isBurnt()", y.isBurnt(), true);
+        // nor does one that was the eighth bowl there, while the end is burnt by the seventh; by count() and by begin()
+        WombatBowls eighth = Check.after("j30;b9,70,3;b9,70,3;b9,70,3;b9,70,3;b9,70,3;b9,70,3;b9,70,3;b0,30,0");
+        Check.due("isToucher(7)", eighth.isToucher(7), true);
+        eighth.keep(0);
+        eighth.count();
+        Check.moves(eighth, Situations.BURNT);
+        Check.due("isBurnt(), the eighth bowl of the end before is a toucher", eighth.isBurnt(), true);
+        eighth.goBack(0);
+        eighth.begin(21);
+        Check.moves(eighth, Situations.BURNT);
+        Check.due("isBurnt(), the eighth bowl of the match before is a toucher", eighth.isBurnt(), true);
         WombatBowls last = Check.after(Situations.BURNT_BY_LAST);
         Check.due("isBurnt(), by the last bowl", last.isBurnt(), true);
         Check.due("bowls()", last.bowls(), 8);
@@ -425,6 +436,20 @@ final class EndBounds {
 
     private static void countedPoints() {
         Check.sentence(4, "Returns the points that are counted.");
+        // eight bowls, and no side scores: all are dead, or the nearest ones are alike
+        WombatBowls none = new WombatBowls();
+        none.changeBowls(1);
+        Check.moves(none, "j30;" + OUT + "b0,29,0;c");
+        none.changeBowls(4);
+        String dead = OUT + OUT + OUT + OUT + OUT + OUT;
+        for (String moves : new String[] {"j30;" + dead + OUT + OUT + "c", "j30;b1,30,0;b-1,30,0;" + dead + "c",
+            "j30;" + dead + "b1,30,0;b-1,30,0;c"}) {
+            Check.moves(none, moves.substring(0, moves.length() - 2));
+            Check.thrown("leader(), eight bowls, " + moves, none, Check.STATE, () -> none.leader());
+            Check.due("count(), " + moves, none.count(), 0);
+            Check.due("first(), as before", none.first(), 1);
+            Check.due("the points of both sides, as before", none.pointsOf(0) * 100 + none.pointsOf(1), 1);
+        }
         // touchers twice: 4 to 8 are counted for the side 0
         String[] four = {"b0,54,0;", "b-8,52,3;", "b8,64,-3;", "b-3,58,1;"};
         for (int touchers = 0; touchers <= 4; touchers++) {
@@ -460,5 +485,14 @@ final class EndBounds {
         Check.due("isJackThere()", burnt.isJackThere(), false);
         Check.due("bowls()", burnt.bowls(), 0);
         Check.due("burntEnds()", burnt.burntEnds(), 1);
+        // the side 0 would score by its first bowl, if the end were not burnt
+        WombatBowls first = Check.after(Situations.BURNT_AT_FIRST);
+        Check.due("isBurnt()", first.isBurnt(), true);
+        for (int bowl = 1; bowl < 8; bowl += 2) {
+            Check.due("bowl 0 is nearer than " + bowl, first.distanceOf(0) < first.distanceOf(bowl), true);
+        }
+        Check.due("count(), burnt", first.count(), 0);
+        Check.due("pointsOf(0), burnt", first.pointsOf(0), 0);
+        Check.due("pointsOfEnd(0), burnt", first.pointsOfEnd(0), 0);
     }
 }

@@ -10,6 +10,8 @@ final class Situations {
     static final String BURNT = TO_BURN + ";b-3,64,1";
     /** Likewise, but by the eighth bowl; bowls lie in the column 10 of the rows 40 and 41. */
     static final String BURNT_BY_LAST = "j50;b0,42,0;b0,70,0;b-4,40,2;b-5,55,2;b8,70,-3;b-8,70,3;b-3,58,1;b-3,64,1";
+    /** Burnt by the eighth bowl, too; the bowl that was played first lies nearer to the jack than all of the other side. */
+    static final String BURNT_AT_FIRST = "j50;b-5,49,2;b-5,63,2;b5,62,-2;b8,70,-3;b-8,70,3;b-5,60,2;b0,66,0;b-3,64,1";
     /** The jack is in the ditch by touchers, and one of them with it; four bowls of the end are played. */
     static final String TOUCHED = "j48;b5,58,-2;b0,70,0;b0,70,0;b0,70,0";
     /** A full buffer of 60 characters that tells moves. */

@@ -277,6 +277,9 @@ final class WaysBounds {
         // from 52: 7 rows are the row 59, 8 the ditch; no toucher, then a toucher
         Check.due("rowOf(0), 7 rows", Check.after("j30;b2,52,0;b2,67,0").rowOf(0), 59);
         Check.due("stateOf(0), 8 rows", Check.after("j30;b2,52,0;b2,68,0").stateOf(0), 2);
+        Check.due("rowOf(0), 7 rows in the column 0", Check.after("j30;b-2,52,0;b-2,67,0").rowOf(0), 59);
+        Check.due("stateOf(0), 8 rows in the column 0", Check.after("j30;b-2,52,0;b-2,68,0").stateOf(0), 2);
+        Check.due("stateOf(0), more than 8 rows in the column 0", Check.after("j30;b-2,52,0;b-2,70,0").stateOf(0), 2);
         WombatBowls seven = Check.after("j48;b5,58,-2;b0,70,0;b0,67,0");
         Check.due("isToucher(1)", seven.isToucher(1), true);
         Check.due("stateOf(1), 7 rows", seven.stateOf(1), 0);
