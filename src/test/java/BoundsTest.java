@@ -10,6 +10,7 @@ public final class BoundsTest {
         CountBounds.run();
         WouldBounds.run();
         DigestBounds.run();
+        SaidBounds.run();
         RefusedBounds.run();
         Sentences.check();
         Check.end("BoundsTest");

@@ -6,10 +6,12 @@ import java.util.regex.Matcher;
 import java.util.regex.Pattern;
 
 /**
- * Holds the sentences that tests have named by Check.sentence() against the document: each of them must stand there,
- * and each sentence of 'Terms', and each line of a promise on a range, an answer or an exception, must be named.
+ * Holds the sentences that tests have named by Check.sentence() against the document, from its first line to its last:
+ * each of them must stand there, and each sentence of 'Terms' and of a promise must be named.
  */
 final class Sentences {
+    private static final Pattern FIRST_LINE = Pattern.compile("[\\w ]+\\([\\w, ]*\\)(?: throws [\\w, ]+)?: (.*)");
+
     private Sentences() {
     }
 
@@ -23,6 +25,7 @@ final class Sentences {
             checkPromise(Integer.parseInt(sections.group(1)), sections.group(2));
         }
         Check.due("promises of the document", promises, 63);
+        checkHeadings(document);
         Matcher terms = Pattern.compile("(?ms)^## Terms$(.*?)^## Promise 1:").matcher(document);
         Check.due("the document has 'Terms'", terms.find(), true);
         checkTerms(terms.group(1));
@@ -32,15 +35,35 @@ final class Sentences {
         return text.replaceAll("\\s+", " ").trim();
     }
 
+    /** What stands beside 'Terms' and the promises has no sentence that a call could break. */
+    private static void checkHeadings(String document) {
+        StringBuilder headings = new StringBuilder();
+        Matcher heading = Pattern.compile("(?m)^## (?!Promise )(.*)$").matcher(document);
+        while (heading.find()) {
+            headings.append(heading.group(1)).append(", ");
+        }
+        Check.due("headings of the document", headings.toString(), "What it is, The public face, Terms, Not promised, ");
+    }
+
     private static void checkPromise(int promise, String section) {
         checkSaid(promise, section);
-        for (String line : section.split("\n")) {
-            if (line.startsWith("- ")) {
-                checkNamed(promise, line.substring(2));
-            } else if (line.startsWith("Returns ") || line.startsWith("Throws ")) {
-                checkNamed(promise, line);
+        String[] lines = section.split("\n");
+        int firstLines = 0;
+        // the line 0 is the promise's name
+        for (int index = 1; index < lines.length; index++) {
+            Matcher first = FIRST_LINE.matcher(lines[index]);
+            if (first.matches()) {
+                firstLines++;
+                for (String sentence : first.group(1).split("(?<=\\.) (?=[A-Z])")) {
+                    checkNamed(promise, sentence);
+                }
+            } else if (lines[index].startsWith("- ")) {
+                checkNamed(promise, lines[index].substring(2));
+            } else if (!lines[index].isEmpty()) {
+                checkNamed(promise, lines[index]);
             }
         }
+        Check.due("the first line of the promise " + promise, firstLines, 1);
     }
 
     private static void checkSaid(int promise, String section) {
