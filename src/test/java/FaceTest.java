@@ -91,7 +91,7 @@ public final class FaceTest {
         return found;
     }
 
-    private static Set<String> methodsOfDocument() throws Exception {
+    static Set<String> methodsOfDocument() throws Exception {
         String document = Files.readString(Path.of("../shared/DOC.md"));
         Pattern line = Pattern.compile("(?m)^    public (\\w+) (\\w+)\\(([^)]*)\\)(?: throws ([\\w, ]+))?;$");
         Matcher found = line.matcher(document);
