@@ -55,7 +55,8 @@ public final class ReadmeTest {
 
     private static String run(String commands) throws Exception {
         ProcessBuilder shell = new ProcessBuilder("bash", "-e", "-c", commands);
-        Process process = shell.directory(place.toFile()).redirectErrorStream(true).start();
+        // what the machine itself says of its settings goes to the other stream
+        Process process = shell.directory(place.toFile()).redirectError(ProcessBuilder.Redirect.INHERIT).start();
         String printed = new String(process.getInputStream().readAllBytes());
         Check.due("exit code of " + commands, process.waitFor(), 0);
         return printed;
