@@ -43,25 +43,7 @@ public final class FaceTest {
             Check.due(inside + " is public", Modifier.isPublic(inside.getModifiers()), false);
             checkPrivateNames(inside, names);
         }
-        checkHeads();
         Check.end("FaceTest");
-    }
-
-    /** What the interface says ahead of some calls stands ahead of these calls in the class, in the document's order. */
-    private static void checkHeads() throws Exception {
-        String document = Files.readString(Path.of("../shared/DOC.md"));
-        String source = Files.readString(Path.of("src/main/java/WombatBowls.java"));
-        Matcher head = Pattern.compile("(?m)^Ahead of the calls (.*) the interface says: (----.*)\\.$").matcher(document);
-        StringBuilder due = new StringBuilder();
-        while (head.find()) {
-            due.append(head.group(2)).append(' ').append(head.group(1).replaceAll("[`,]", "")).append(' ');
-        }
-        StringBuilder got = new StringBuilder();
-        Matcher line = Pattern.compile("(?m)^    (?:// (----.*)|public \\w+ (\\w+)\\(.*)$").matcher(source);
-        while (line.find()) {
-            got.append(line.group(1) == null ? line.group(2) : line.group(1)).append(' ');
-        }
-        Check.due("heads, and the calls behind them", got.toString(), due.toString());
     }
 
     private static void checkPrivateNames(Class<?> type, Set<String> publicNames) {
